@@ -434,6 +434,14 @@ public final class PromiseTests {
         due(10, "DEAD from the road", x.become(5, 8), 1);
         due(10, "goes nowhere", x.of(5, 3), -1);
         due(10, "goes nowhere", x.of(5, 10), -1);
+        x.person(1, 0, 1, -1, 0);
+        x.person(1, 0, 1, -1, 0);
+        x.move(6, 16);
+        x.move(7, 17);
+        x.days(6);
+        due(10, "ABOARD", x.become(6, 4), 1);
+        due(10, "DEAD from aboard", x.become(6, 8), 1);
+        due(10, "DEAD from the bridge", x.become(7, 8), 1);
         x.days(9);
         due(10, "stays DEAD", x.of(5, 2), 8);
     }
@@ -539,6 +547,7 @@ public final class PromiseTests {
         x.heal(0, 2);
         x.fact(0, 0, 0);
         due(15, "a letter ahead on its DAY counts", x.known(1, 0, 0, 19), 2);
+        due(15, "and comes 7 DAYS later", x.known(1, 0, 0, 18), 0);
         due(15, "what is told last", x.known(0, 0, 0, 12), 2);
         due(15, "what was told ahead", x.known(0, 0, 0, 11), 6);
         x.days(1);
@@ -615,6 +624,7 @@ public final class PromiseTests {
         due(18, "not on DAY 7", x.broken(0, 7), 0);
         due(18, "the other", x.broken(1, 8), 0);
         due(18, "behind TODAY", x.broken(0, 9), NONE);
+        due(18, "DAY 0", x.broken(0, 0), 0);
         due(18, "DAY -1", x.broken(0, -1), NONE);
         due(18, "side 2", x.broken(2, 0), NONE);
         x.days(1);
@@ -765,15 +775,24 @@ public final class PromiseTests {
         gives(x, "(0-7)/2", -3, 0);
         gives(x, "7/0+1", 1, 0);
         gives(x, "8/4/2*3-1-1", 1, 0);
-        gives(x, "2<3|0&0", 1, 0);
-        gives(x, "5&3", 1, 0);
         gives(x, "!5+!0*4", 4, 0);
+        truths();
         moreSays(x);
     }
 
-    private static void moreSays(NameRolls x) {
+    private static void truths() {
+        NameRolls x = land();
+        x.person(1, 0, 1, -1, 0);
+        gives(x, "2<3|0&0", 1, 0);
+        gives(x, "5&3", 1, 0);
         gives(x, "1|0=0&0", 1, 0);
         gives(x, "3>2", 1, 0);
+        gives(x, "(3<3)*2+(3>3)", 0, 0);
+        gives(x, "(0|5)*8+(5|0)*4+(0&5)*2+(0|0)", 12, 0);
+        gives(x, "(2<3)*100+(2=2)*10+!0", 111, 0);
+    }
+
+    private static void moreSays(NameRolls x) {
         int t = text(x, 0, 0, "g+10*y+100*n");
         x.fact(0, 1, 1);
         x.fact(0, 2, 1);
@@ -786,6 +805,14 @@ public final class PromiseTests {
         due(22, "b on DAY 3", x.says(d, 0, 0, 3, 0), 101);
         due(22, "b behind TODAY", x.says(d, 0, 0, 600, 0), 59801);
         due(22, "b for the other", x.says(d, 0, 10, 600, 0), 59800);
+        x.promise(0, 1, 4);
+        x.promise(0, 2, 4);
+        x.days(1);
+        due(22, "b for SIDE 1", x.says(d, 0, 10, 5, 0), 302);
+        due(22, "b for SIDE 0", x.says(d, 0, 0, 5, 0), 301);
+        int l = text(x, 0, 0, "b=2?7;8");
+        due(22, "LINE for SIDE 0", x.says(l, 0, 1, 5, 0), 1);
+        due(22, "LINE for SIDE 1", x.says(l, 0, 11, 5, 0), 0);
         due(22, "no such text", x.says(20, 0, 0, 0, 0), NO_VALUE);
         due(22, "no such text", x.says(-1, 0, 0, 0, 0), NO_VALUE);
         due(22, "no such person", x.says(d, 3, 0, 0, 0), NO_VALUE);
@@ -813,6 +840,7 @@ public final class PromiseTests {
         due(23, "PARTY 0's", x.owed(0, 3, 0), 101);
         due(23, "for its holder", x.owed(1, 3, 0), 201);
         text(x, 10, 5, "0");
+        text(x, 20, 0, "1");
         due(23, "neither", x.owed(1, 5, 0), 0);
         due(23, "still", x.owed(0, 5, 0), 101);
         due(23, "no such person", x.owed(2, 0, 0), NONE);
@@ -942,6 +970,7 @@ public final class PromiseTests {
             due(28, "same(0, " + b + ", 1)", x.same(0, b, 1), why[b - 1]);
             due(28, "same(" + b + ", 0, 1)", x.same(b, 0, 1), why[b - 1]);
         }
+        sameByZero();
         x.canBe(3, 4, 1);
         due(28, "c can be d", x.same(0, 2, 0), 2);
         x.row(0, word("abd"), 30, 5);
@@ -952,6 +981,20 @@ public final class PromiseTests {
         due(28, "no such row", x.same(-1, 0, 0), NONE);
         due(28, "what 2", x.same(0, 1, 2), NONE);
         due(28, "what -1", x.same(0, 1, -1), NONE);
+    }
+
+    private static void sameByZero() {
+        NameRolls x = new NameRolls();
+        x.row(0, word("a"), 0, 0);
+        x.row(1, word("a"), 0, 0);
+        x.row(1, word("a"), 2, 0);
+        x.row(1, word("a"), 1, 1);
+        x.row(0, word("a"), 2, 1);
+        due(28, "AGE 0 and UNIT 0 are told", x.same(0, 1, 0), 2);
+        due(28, "AGE 0 and 2", x.same(0, 2, 1), 3);
+        due(28, "AGE 2 and 0", x.same(4, 1, 1), 3);
+        due(28, "UNIT 0 and 1", x.same(0, 3, 1), 4);
+        due(28, "UNIT 1 and 0", x.same(4, 2, 1), 4);
     }
 
     private static void joined() {
@@ -993,6 +1036,20 @@ public final class PromiseTests {
         due(30, "more", x.clash(0), 3);
         due(30, "the greater of the first", x.clash(2), 4);
         clashByLetters();
+        clashOfOneSide();
+    }
+
+    private static void clashOfOneSide() {
+        NameRolls x = new NameRolls();
+        x.row(0, word("a"), 30, 5);
+        x.row(1, word("a"), 31, 5);
+        x.row(0, word("a"), 32, 5);
+        x.row(1, word("a"), 32, 5);
+        due(30, "of one side, AGES that differ by 2", x.clash(0), 1);
+        x.row(0, word("a"), 33, 5);
+        due(30, "by 3", x.clash(0), 3);
+        due(30, "the lesser", x.clash(1), 0);
+        due(30, "the greater", x.clash(2), 3);
     }
 
     private static void clashByLetters() {
@@ -1187,6 +1244,7 @@ public final class PromiseTests {
         due(35, "the lists are empty", x.best(), STATE);
         due(36, "it stays", x.bestOf(0), 3);
         due(32, "offer", x.offer(0), 1);
+        due(35, "the other list is empty", x.best(), STATE);
         x.offer(1);
         x.offer(2);
         x.offer(4);
@@ -1242,7 +1300,8 @@ public final class PromiseTests {
         for (int i = 0; i < 6; i++) {
             due(37, "load", x.load(i, 99 * (i % 2), 99), i + 1);
         }
-        due(37, "FULL", x.load(6, 1, 1), FULL);
+        due(37, "stretchers alone", new NameRolls().load(0, 1, 0), NONE);
+        due(37, "FULL", x.load(6, 1, 0), FULL);
         due(37, "NOT ahead of FULL", x.load(7, 1, 1), NOT);
         due(37, "twice", x.load(0, 1, 1), NONE);
     }
@@ -1254,6 +1313,9 @@ public final class PromiseTests {
         x.road(0, 16, 2);
         x.road(1, 16, 5);
         due(38, "none is told", x.sail(9, 9, 9), STATE);
+        due(38, "STRETCHERS 0, FEET 999", x.sail(0, 999, 1), STATE);
+        due(38, "STRETCHERS 999, FEET 0", x.sail(999, 0, 30), STATE);
+        due(38, "feet 1000", x.sail(9, 1000, 9), NONE);
         due(38, "stretchers 1000", x.sail(1000, 9, 9), NONE);
         due(38, "feet -1", x.sail(9, -1, 9), NONE);
         due(38, "turn 0", x.sail(9, 9, 0), NONE);
@@ -1279,6 +1341,23 @@ public final class PromiseTests {
         due(39, "both", x.voyage(0, 0), 3);
         due(39, "no second", x.voyage(1, 0), NONE);
         equalVoyages();
+        tooManyStretchers();
+    }
+
+    private static void tooManyStretchers() {
+        NameRolls x = new NameRolls();
+        for (int i = 0; i < 2; i++) {
+            x.camp(0, 9);
+            x.road(i, 16, 1);
+            due(37, "stretchers alone", x.load(i, 4, 0), i + 1);
+        }
+        due(38, "one is too great", x.sail(3, 9, 5), NOT);
+        due(38, "each alone", x.sail(4, 0, 5), 4 * 1 + 4 * 6);
+        due(39, "two voyages", x.voyage(1, 0), 2);
+        x.load(0, 4, 2);
+        x.load(1, 4, 2);
+        due(38, "both just so", x.sail(8, 4, 5), 12);
+        due(39, "one voyage", x.voyage(0, 0), 3);
     }
 
     private static void equalVoyages() {
@@ -1401,11 +1480,16 @@ public final class PromiseTests {
         x.sought(0, 0, 0);
         x.become(0, 6);
         due(44, "LET GO", x.find(0), 1);
+        x.person(1, 0, 1, -1, 0);
         x.move(1, 17);
+        x.move(3, 16);
         x.days(5);
-        due(44, "at the bridge", x.find(0), 1);
+        due(44, "at the harbour, at the bridge", x.find(0), 2);
+        x.become(3, 4);
+        due(44, "ABOARD", x.find(0), 2);
         x.become(1, 5);
-        due(44, "HANDED OVER", x.find(0), 0);
+        due(44, "HANDED OVER", x.find(0), 1);
+        due(45, "the one aboard", x.found(0), 3);
         for (int i = 2; i <= 5; i++) {
             due(43, "sought", x.sought(0, 600, 600), i);
         }
@@ -1545,8 +1629,11 @@ public final class PromiseTests {
         due(55, "place -1", x.read(0, -1), NO_VALUE);
         due(55, "table 4", x.read(4, 0), NO_VALUE);
         due(55, "nothing", x.read(1, 0), NO_VALUE);
+        due(54, "item", x.item(0, 0, 200), 1);
+        due(55, "its sign", x.read(0, 0), -56);
         due(53, "shorts", x.table(0, 1, 60), 1);
         due(55, "all 0", x.read(0, 59), 0);
+        due(55, "all 0", x.read(0, 0), 0);
         due(54, "item", x.item(0, 59, 0x18000), 1);
         due(55, "its sign", x.read(0, 59), -32768);
         due(53, "a row of none", x.table(0, 1, 0), 1);
