@@ -712,6 +712,8 @@ public final class PromiseTests {
         fault("(((((((((k)))))))))", 8);
         fault("!!!!!!!!k", -1);
         fault("!!!!!!!!!k", 8);
+        fault("k?((((((((k))))))))", -1);
+        fault("k?(((((((((k", 10);
         fault("!(!(!(!(k))))", -1);
         fault("!(!(!(!(!k))))", 8);
         fault("!(!(!(!k+!k)))", -1);
@@ -813,7 +815,7 @@ public final class PromiseTests {
         int l = text(x, 0, 0, "b=2?7;8");
         due(22, "LINE for SIDE 0", x.says(l, 0, 1, 5, 0), 1);
         due(22, "LINE for SIDE 1", x.says(l, 0, 11, 5, 0), 0);
-        due(22, "no such text", x.says(20, 0, 0, 0, 0), NO_VALUE);
+        due(22, "no such text", x.says(x.count(6), 0, 0, 0, 0), NO_VALUE);
         due(22, "no such text", x.says(-1, 0, 0, 0, 0), NO_VALUE);
         due(22, "no such person", x.says(d, 3, 0, 0, 0), NO_VALUE);
         due(22, "what 2", x.says(d, 0, 2, 0, 0), NO_VALUE);
@@ -873,6 +875,12 @@ public final class PromiseTests {
         due(24, "orders do not count", x.mayStay(0, 2, 1), 0);
         x.fact(1, 1, 0);
         due(24, "ASKED no more", x.mayStay(1, 2, 1), 0);
+        NameRolls y = land();
+        y.person(5, 0, 41, -1, 0);
+        y.fact(0, 1, 1);
+        due(20, "text", text(y, 11, 0, "0"), 0);
+        text(y, 1, 0, "1");
+        due(24, "PARTY 1's, though it gives 0", y.mayStay(0, 0, 0), 0);
         due(24, "no such person", x.mayStay(2, 0, 0), NONE);
         due(24, "DAY 601", x.mayStay(0, 601, 0), NONE);
         due(24, "DAY -1", x.mayStay(0, 0, -1), NONE);
@@ -1641,6 +1649,10 @@ public final class PromiseTests {
         due(31, "a row of none", x.list(0, 0, 0, 1), 0);
         due(53, "nothing again", x.table(0, -1, MOST), 1);
         due(54, "nothing again", x.item(0, 0, 1), CAST);
+        due(55, "nothing again", x.read(0, 0), NO_VALUE);
+        due(53, "table 3", x.table(3, 1, 1), 1);
+        due(54, "table 3", x.item(3, 0, -7), 1);
+        due(55, "table 3", x.read(3, 0), -7);
         due(56, "blank", x.blank(LEAST), -1);
         due(56, "blank", x.blank(MOST), LEAST);
         due(56, "blank", x.blank(0), MOST);

@@ -23,6 +23,7 @@ public final class SearchTests {
             voyages(random);
             crossing(random);
             rounds(random);
+            acts(random);
         }
         for (int i = 0; i < 20000; i++) {
             faults(random);
@@ -637,6 +638,122 @@ public final class SearchTests {
         due("order", x.order(), most);
         for (int i = 0; i <= n; i++) {
             due("ordered", x.ordered(i), i < n ? best[i] : -1);
+        }
+    }
+
+    // ---- acts, by classes of Java that are under one another as the kinds are
+
+    private static final List<Integer> RAN = new ArrayList<>();
+
+    private static class Anyone {
+        int age;
+        int number;
+        int grade;
+
+        int goes(int x) {
+            RAN.add(10);
+            return x + age;
+        }
+
+        int ranks(int x) {
+            RAN.add(11);
+            return goes(x) * 2;
+        }
+
+        int tells(int x) {
+            RAN.add(12);
+            return ranks(x) ^ number;
+        }
+    }
+
+    private static class HeldOne extends Anyone {
+        @Override
+        int goes(int x) {
+            RAN.add(20);
+            return super.goes(x) - 1;
+        }
+    }
+
+    private static final class SickOne extends HeldOne {
+        @Override
+        int ranks(int x) {
+            RAN.add(30);
+            return super.ranks(x) + grade;
+        }
+    }
+
+    private static final class Doctor extends HeldOne {
+        @Override
+        int tells(int x) {
+            RAN.add(40);
+            return -super.tells(x);
+        }
+    }
+
+    private static class Wanted extends HeldOne {
+        @Override
+        int goes(int x) {
+            RAN.add(50);
+            return super.goes(x + 3);
+        }
+
+        @Override
+        int tells(int x) {
+            RAN.add(51);
+            return super.tells(x) + goes(1);
+        }
+    }
+
+    private static final class Stayer extends HeldOne {
+        @Override
+        int ranks(int x) {
+            RAN.add(60);
+            return goes(x) - super.ranks(x);
+        }
+    }
+
+    private static final class Child extends HeldOne {
+        @Override
+        int goes(int x) {
+            RAN.add(70);
+            return super.goes(x) * 3;
+        }
+    }
+
+    private static final class Hostage extends Wanted {
+        @Override
+        int ranks(int x) {
+            RAN.add(80);
+            return super.ranks(x) ^ goes(x);
+        }
+
+        @Override
+        int goes(int x) {
+            RAN.add(81);
+            return super.goes(x) + 5;
+        }
+    }
+
+    private static void acts(Random random) {
+        NameRolls x = new NameRolls();
+        x.camp(0, 99);
+        for (int number = 0; number < 14; number++) {
+            int kind = 1 + number % 7;
+            Anyone who = kind == 1 ? new HeldOne() : kind == 2 ? new SickOne() : kind == 3 ? new Doctor()
+                : kind == 4 ? new Wanted() : kind == 5 ? new Stayer() : kind == 6 ? new Child() : new Hostage();
+            who.age = random.nextInt(100);
+            who.number = number;
+            who.grade = kind == 2 ? 1 + random.nextInt(9) : 0;
+            due("person", x.person(kind, 0, who.age, -1, who.grade), number);
+            for (int act = 0; act < 3; act++) {
+                int with = random.nextBoolean() ? random.nextInt() : random.nextInt(20);
+                RAN.clear();
+                int want = act == 0 ? who.goes(with) : act == 1 ? who.ranks(with) : who.tells(with);
+                due("act", x.act(number, act, with), want);
+                for (int i = 0; i <= RAN.size(); i++) {
+                    due("trace", x.trace(i), i < RAN.size() ? RAN.get(i) : -1);
+                }
+            }
         }
     }
 
