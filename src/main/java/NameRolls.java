@@ -1484,7 +1484,7 @@ public final class NameRolls {
             groupOf[first] = first;
             reached[0] = first;
             int n = 1;
-            for (int i = 0; i < n; i++) {
+            for (int i = 0; i < n && i < MOST; i++) {
                 for (int b = 0; b < size; b++) {
                     if (groupOf[b] == NONE && n < MOST && isSure(reached[i], b)) {
                         groupOf[b] = first;
@@ -1965,7 +1965,7 @@ public final class NameRolls {
 
     /** Two rows of walkers on the bridge, neither ahead of the other by more than told. */
     private static final class Bridge {
-        private static final int MOST = 10, LONGEST_ROW = 90, PLACES = LONGEST_ROW + 1;
+        private static final int MOST = 10, LONGEST_ROW = 90, PLACES = LONGEST_ROW + 1, WALKS_IN_ONE = 16;
 
         private final int[][] minutesOf = new int[2][MOST];
         private final int[] sizes = new int[2];
@@ -1973,8 +1973,11 @@ public final class NameRolls {
         private final int[][] over = new int[2][PLACES];
         private final int[][] rests = new int[2][PLACES];
         private final int[] total = new int[2];
-        // The least minutes to the end when the rows have walked a and b minutes, at a * PLACES + b.
-        private final int[] least = new int[PLACES * PLACES];
+        // The least minutes to the end when row 1 has walked b minutes, at b, or at PLACES + b if row 0 has walked an
+        // odd number of them: the minute that is looked at needs no others.
+        private final int[] least = new int[2 * PLACES];
+        // Who walks then, row 0 (1), row 1 (2) or both (3): two bits of each a * PLACES + b, which keeps the room small.
+        private final int[] walks = new int[PLACES * PLACES / WALKS_IN_ONE + 1];
         private final int[] starts = new int[2 * LONGEST_ROW];
         private int length;
 
@@ -2001,14 +2004,14 @@ public final class NameRolls {
             layOut(1);
             for (int a = total[0]; a >= 0; a--) {
                 for (int b = total[1]; b >= 0; b--) {
-                    least[a * PLACES + b] = leastFrom(a, b, ahead);
+                    decide(a, b, ahead);
                 }
             }
             if (least[0] >= NEVER) {
                 return NOT;
             }
             length = least[0];
-            keepStarts(ahead);
+            keepStarts();
             sizes[0] = 0;
             sizes[1] = 0;
             return length;
@@ -2029,13 +2032,27 @@ public final class NameRolls {
             total[row] = walked;
         }
 
-        private int leastFrom(int a, int b, int ahead) {
-            if (a == total[0] && b == total[1]) {
-                return 0;
+        private void decide(int a, int b, int ahead) {
+            int fewest = a == total[0] && b == total[1] ? 0 : NEVER;
+            int first = 0;
+            for (int i = 0; i < 3; i++) {
+                // Both, row 0, row 1 is also the order of what begins, whoever is walking already.
+                int walking = i == 0 ? 3 : i;
+                int minutes = 1 + leastAfter(a, b, walking, ahead);
+                if (minutes < fewest) {
+                    fewest = minutes;
+                    first = walking;
+                }
             }
-            int both = leastAfter(a, b, 3, ahead);
-            int one = Math.min(leastAfter(a, b, 1, ahead), leastAfter(a, b, 2, ahead));
-            return Math.min(NEVER, 1 + Math.min(both, one));
+            least[(a & 1) * PLACES + b] = fewest;
+            int place = a * PLACES + b;
+            int shift = 2 * (place % WALKS_IN_ONE);
+            walks[place / WALKS_IN_ONE] = walks[place / WALKS_IN_ONE] & ~(3 << shift) | first << shift;
+        }
+
+        private int walkingFrom(int a, int b) {
+            int place = a * PLACES + b;
+            return (walks[place / WALKS_IN_ONE] >> (2 * (place % WALKS_IN_ONE))) & 3;
         }
 
         /** The least minutes behind a minute in which row 0 (1), row 1 (2) or both (3) walk; NEVER if it can't be. */
@@ -2051,28 +2068,20 @@ public final class NameRolls {
             if (nextA > total[0] || nextB > total[1] || Math.abs(over[0][nextA] - over[1][nextB]) > ahead) {
                 return NEVER;
             }
-            return least[nextA * PLACES + nextB];
+            return least[(nextA & 1) * PLACES + nextB];
         }
 
-        private void keepStarts(int ahead) {
+        private void keepStarts() {
             int a = 0;
             int b = 0;
             for (int m = 0; m < length && m < starts.length && a < PLACES && b < PLACES; m++) {
-                int walking = firstWalking(a, b, length - m - 1, ahead);
+                int walking = walkingFrom(a, b);
                 int stepA = walking & 1;
                 int stepB = walking >> 1;
                 starts[m] = rests[0][a] * stepA + 2 * rests[1][b] * stepB;
                 a += stepA;
                 b += stepB;
             }
-        }
-
-        /** As both, row 0, row 1 is also the order of what begins, whoever is walking already. */
-        private int firstWalking(int a, int b, int left, int ahead) {
-            if (leastAfter(a, b, 3, ahead) == left) {
-                return 3;
-            }
-            return leastAfter(a, b, 1, ahead) == left ? 1 : 2;
         }
 
         int tellBegan(int m) {
