@@ -1976,7 +1976,7 @@ public final class NameRolls {
         // The least minutes to the end when row 1 has walked b minutes, at b, or at PLACES + b if row 0 has walked an
         // odd number of them: the minute that is looked at needs no others.
         private final int[] least = new int[2 * PLACES];
-        // Who walks then, row 0 (1), row 1 (2) or both (3): two bits of each a * PLACES + b, which keeps the room small.
+        // Who walks then, row 0 (1), row 1 (2) or both (3): two bits of each a * PLACES + b, as the room is small.
         private final int[] walks = new int[PLACES * PLACES / WALKS_IN_ONE + 1];
         private final int[] starts = new int[2 * LONGEST_ROW];
         private int length;
