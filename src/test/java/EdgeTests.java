@@ -2278,6 +2278,13 @@ public final class EdgeTests {
         due(39, "the last three told", x.voyage(0, 0), 56);
         due(39, "then the others", x.voyage(1, 0), 7);
         due(39, "their DAY", x.voyage(1, 1), 33);
+        for (int i = 0; i < 6; i++) {
+            x.load(i, 0, 10);
+        }
+        due(38, "all six in one", x.sail(0, 60, 30), 60 * 6);
+        due(39, "its CAMPS", x.voyage(0, 0), 63);
+        due(39, "its DAY", x.voyage(0, 1), 6);
+        due(39, "no second", x.voyage(1, 0), NONE);
         NameRolls y = at(600);
         y.camp(0, 1);
         y.road(0, 16, 9);

@@ -1,5 +1,8 @@
 import java.util.ArrayList;
+import java.util.Arrays;
+import java.util.HashMap;
 import java.util.List;
+import java.util.Map;
 import java.util.Random;
 
 /** Compares what needs a search with answers found by trying everything, on many small cases. */
@@ -22,6 +25,7 @@ public final class SearchTests {
             exchange(random);
             voyages(random);
             crossing(random);
+            longCrossing(random);
             rounds(random);
             acts(random);
         }
@@ -474,9 +478,10 @@ public final class SearchTests {
             x.road(i, 16, camp[i][2]);
             due("load", x.load(i, camp[i][0], camp[i][1]), i + 1);
         }
-        int stretchers = 3 + random.nextInt(5);
-        int feet = 4 + random.nextInt(6);
-        int turn = 1 + random.nextInt(5);
+        boolean isGreat = random.nextInt(3) == 0;
+        int stretchers = (isGreat ? 15 : 3) + random.nextInt(5);
+        int feet = (isGreat ? 20 : 4) + random.nextInt(6);
+        int turn = 1 + random.nextInt(isGreat ? 30 : 5);
         List<Integer> best = null;
         int ways = 1;
         for (int i = 0; i < n; i++) {
@@ -598,6 +603,81 @@ public final class SearchTests {
             }
         }
         return false;
+    }
+
+    // ---- the bridge with long rows, by all states of both, each asked once
+
+    private static final int NEVER = 1000000;
+    private static Map<Integer, Integer> leastLeft;
+
+    private static void longCrossing(Random random) {
+        NameRolls x = new NameRolls();
+        walkers = new int[2][];
+        int size = 6 + random.nextInt(5);
+        for (int row = 0; row < 2; row++) {
+            walkers[row] = new int[Math.max(1, Math.min(10, size + random.nextInt(4) - 2))];
+            for (int i = 0; i < walkers[row].length; i++) {
+                walkers[row][i] = random.nextBoolean() ? 1 + random.nextInt(9) : 1 + random.nextInt(2) * 8;
+                due("walker", x.walker(row, walkers[row][i]), i + 1);
+            }
+        }
+        int ahead = 1 + random.nextInt(3);
+        leastLeft = new HashMap<>();
+        int least = leastFrom(new int[4], ahead);
+        due("bridge", x.bridge(ahead), least >= NEVER ? -4 : least);
+        if (least >= NEVER) {
+            return;
+        }
+        int[] state = new int[4];
+        for (int m = 0; m < least; m++) {
+            for (int begin : new int[] {3, 1, 2, 0}) {
+                int[] next = minute(state, begin, ahead);
+                if (next != null && leastFrom(next, ahead) == least - m - 1) {
+                    due("began", x.began(m), begin);
+                    state = next;
+                    break;
+                }
+            }
+        }
+        due("began", x.began(least), -1);
+    }
+
+    /** The state: of both rows how many are over, then the minutes that the one who walks has left. */
+    private static int leastFrom(int[] state, int ahead) {
+        if (state[0] == walkers[0].length && state[1] == walkers[1].length) {
+            return 0;
+        }
+        int key = ((state[0] * 11 + state[1]) * 10 + state[2]) * 10 + state[3];
+        if (leastLeft.containsKey(key)) {
+            return leastLeft.get(key);
+        }
+        int least = NEVER;
+        for (int begin = 0; begin < 4; begin++) {
+            int[] next = minute(state, begin, ahead);
+            if (next != null && !Arrays.equals(next, state)) {
+                least = Math.min(least, 1 + leastFrom(next, ahead));
+            }
+        }
+        leastLeft.put(key, least);
+        return least;
+    }
+
+    /** The state behind a minute in which so many begin; null if they can't. */
+    private static int[] minute(int[] state, int begin, int ahead) {
+        int[] next = state.clone();
+        for (int row = 0; row < 2; row++) {
+            if ((begin >> row & 1) == 1) {
+                if (state[2 + row] > 0 || state[row] == walkers[row].length) {
+                    return null;
+                }
+                next[2 + row] = walkers[row][state[row]];
+            }
+            if (next[2 + row] > 0) {
+                next[2 + row]--;
+                next[row] += next[2 + row] == 0 ? 1 : 0;
+            }
+        }
+        return Math.abs(next[0] - next[1]) <= ahead ? next : null;
     }
 
     // ---- rounds, by all rows of places in their order
