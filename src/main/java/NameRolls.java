@@ -455,7 +455,7 @@ public final class NameRolls {
             return within(act, GOES, TELLS) ? run(act, kind, x, 0, crowd) : NO_VALUE;
         }
 
-        /** Runs the body of the kind for an act, or that of the next kind above that has one. */
+        /** Runs the body of a kind for an act, or that of the next kind above that has one. */
         private int run(int act, int fromKind, int x, int depth, Crowd crowd) {
             int owner = fromKind;
             for (int i = 0; i < KINDS && owner > 0 && owner < KINDS && BODIES[owner * 3 + act] == 0; i++) {
@@ -465,9 +465,11 @@ public final class NameRolls {
                 return 0;
             }
             int body = BODIES[owner * 3 + act];
-            int above = ABOVE[owner];
-            int d = depth + 1;
             crowd.noteBody(body);
+            return runBody(body, ABOVE[owner], x, depth + 1, crowd);
+        }
+
+        private int runBody(int body, int above, int x, int d, Crowd crowd) {
             switch (body) {
                 case 10: return x + age;
                 case 11: return run(GOES, kind, x, d, crowd) * 2;
@@ -1033,7 +1035,7 @@ public final class NameRolls {
     /** Reads a text by its grammar: what it gives, by which line, and where its fault is. */
     private static final class Reader {
         private static final int MOST_OPEN = 8, MOST_DIGITS = 4, END = -1;
-        private static final int COMPARE = 2, OPERAND = 5;
+        private static final int COMPARE = 2, LAST_RANK = 4;
         private static final String NAMES = "kgynadbct";
 
         // The values of NAMES, in their order.
@@ -1086,20 +1088,22 @@ public final class NameRolls {
             }
         }
 
-        /** Ranks 0 to 4 are the operators from | to *, OPERAND what they join. */
+        /** Ranks 0 to 4 are the operators from | to *. */
         private int readRank(int rank, int open) {
-            if (rank >= OPERAND) {
-                return readOperand(open);
-            }
-            int left = readRank(rank + 1, open);
+            int left = readPart(rank + 1, open);
             // Each turn takes a byte at least; comparisons are not joined to one another.
             int most = rank == COMPARE ? 1 : end;
             for (int i = 0; i < most && rankOf(sign()) == rank; i++) {
                 int operator = sign();
                 at++;
-                left = work(operator, left, readRank(rank + 1, open));
+                left = work(operator, left, readPart(rank + 1, open));
             }
             return left;
+        }
+
+        /** What the operators of the rank ahead join. */
+        private int readPart(int rank, int open) {
+            return rank > LAST_RANK ? readOperand(open) : readRank(rank, open);
         }
 
         private static int rankOf(int operator) {
@@ -1938,12 +1942,16 @@ public final class NameRolls {
             }
             for (int set = 1; set <= rest && set < SETS; set++) {
                 if ((set & rest) == set && fits[set]) {
-                    int day = Math.max(free, ready[set]);
-                    trialSets[i] = set;
-                    trialDays[i] = day;
-                    sailOn(i + 1, rest - set, day + turnDays, sum + people[set] * day);
+                    sailWith(set, i, rest - set, free, sum);
                 }
             }
+        }
+
+        private void sailWith(int set, int i, int rest, int free, int sum) {
+            int day = Math.max(free, ready[set]);
+            trialSets[i] = set;
+            trialDays[i] = day;
+            sailOn(i + 1, rest, day + turnDays, sum + people[set] * day);
         }
 
         private void keepTrial(int n, int sum) {
@@ -2148,10 +2156,14 @@ public final class NameRolls {
             }
             for (int i = 0; i < size; i++) {
                 if (((used >> i) & 1) == 0) {
-                    trial[place] = i;
-                    tryFrom(place + 1, used | (1 << i));
+                    tryWith(i, place, used | (1 << i));
                 }
             }
+        }
+
+        private void tryWith(int i, int place, int used) {
+            trial[place] = i;
+            tryFrom(place + 1, used);
         }
 
         private void keepIfBetter() {

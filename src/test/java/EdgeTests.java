@@ -2197,8 +2197,8 @@ public final class EdgeTests {
 
     private static void loads() {
         int[][] wrongOnes = {{-1, 1, 1}, {8, 1, 1}, {16, 1, 1}, {17, 1, 1}, {LEAST, 1, 1}, {MOST, 1, 1}, {0, 0, 0},
-            {0, -1, 1}, {0, 1, -1}, {0, 100, 1}, {0, 1, 100}, {0, LEAST, 1}, {0, 1, LEAST}, {0, MOST, 1}, {0, 1, MOST},
-            {0, MOST, MOST}, {0, -5, 5}, {7, 0, 0}};
+            {0, -1, 1}, {0, 1, -1}, {0, -1, 2}, {0, 2, -1}, {0, -1, 99}, {0, 99, -1}, {0, 100, 1}, {0, 1, 100},
+            {0, LEAST, 1}, {0, 1, LEAST}, {0, MOST, 1}, {0, 1, MOST}, {0, MOST, MOST}, {0, -5, 5}, {7, 0, 0}};
         for (int[] w : wrongOnes) {
             refused(37, NONE, "load(" + w[0] + ", " + w[1] + ", " + w[2] + ")", EdgeTests::harbour,
                 x -> x.load(w[0], w[1], w[2]));

@@ -28,6 +28,7 @@ public final class LanguageTests {
         members();
         words(code);
         lengths(code);
+        recursion(code);
         System.out.println(wrong == 0 ? "the rules are kept" : wrong + " faults of the language");
         if (wrong != 0) {
             System.exit(1);
@@ -155,6 +156,27 @@ public final class LanguageTests {
                 }
                 start = -1;
             }
+        }
+    }
+
+    /** Rule 8: methods that call one another, or a static one that calls itself. */
+    private static void recursion(String code) {
+        String head = "(?m)^ +(?:private )?(static )?(?:\\w+(?:\\[\\])*) (\\w+)\\([^;{]*\\) \\{$";
+        Matcher heads = Pattern.compile(head).matcher(code);
+        int methods = 0;
+        while (heads.find()) {
+            methods++;
+            int end = heads.end();
+            for (int open = 1; end < code.length() && open > 0; end++) {
+                open += code.charAt(end) == '{' ? 1 : code.charAt(end) == '}' ? -1 : 0;
+            }
+            Pattern itself = Pattern.compile("(?<![.\\w])" + heads.group(2) + "\\(");
+            if (heads.group(1) == null && itself.matcher(code.substring(heads.end(), end)).find()) {
+                bad("calls itself: " + heads.group(2));
+            }
+        }
+        if (methods < 100) {
+            bad("just " + methods + " methods were found");
         }
     }
 }
